@@ -248,6 +248,7 @@ public final class SignatureSpans {
     public byte digest(int signature, int i) throws NoSuchElementException, ArrayIndexOutOfBoundsException {
         Signature s = signatureAt(signature);
         if (i < 0 || i >= DIGEST_BYTES) {
+            // The document names this one, though rule 6 of LANGUAGE.md does not list it.
             throw new ArrayIndexOutOfBoundsException("a digest has bytes 0 to 31");
         }
         return s.digest[i];
@@ -433,7 +434,7 @@ public final class SignatureSpans {
 
         /** The caller has seen that kind and changedField are such. */
         boolean permits(int kind, int changedField) {
-            if ((allowedKinds >> kind & 1) == 0 || !levelPermits(kind)) {
+            if (((allowedKinds >> kind) & 1) == 0 || !levelPermits(kind)) {
                 return false;
             }
             return kind != KIND_FILLED || !locked[changedField];
@@ -505,7 +506,7 @@ public final class SignatureSpans {
                 push((byte) (bits >>> shift));
             }
             for (int i = 0; i < DIGEST_BYTES; i++) {
-                result[i] = (byte) (state[i / 4] >>> (24 - i % 4 * 8));
+                result[i] = (byte) (state[i / 4] >>> (24 - (i % 4) * 8));
             }
         }
 
@@ -535,14 +536,14 @@ public final class SignatureSpans {
         private void fillSchedule() {
             for (int i = 0; i < 16; i++) {
                 int at = i * 4;
-                schedule[i] = (block[at] & 255) << 24 | (block[at + 1] & 255) << 16
-                        | (block[at + 2] & 255) << 8 | (block[at + 3] & 255);
+                schedule[i] = ((block[at] & 255) << 24) | ((block[at + 1] & 255) << 16)
+                        | ((block[at + 2] & 255) << 8) | (block[at + 3] & 255);
             }
             for (int i = 16; i < ROUNDS; i++) {
                 int early = schedule[i - 15];
                 int late = schedule[i - 2];
-                int s0 = turn(early, 7) ^ turn(early, 18) ^ early >>> 3;
-                int s1 = turn(late, 17) ^ turn(late, 19) ^ late >>> 10;
+                int s0 = turn(early, 7) ^ turn(early, 18) ^ (early >>> 3);
+                int s1 = turn(late, 17) ^ turn(late, 19) ^ (late >>> 10);
                 schedule[i] = schedule[i - 16] + s0 + schedule[i - 7] + s1;
             }
         }
@@ -557,8 +558,8 @@ public final class SignatureSpans {
             int g = state[6];
             int h = state[7];
             for (int i = 0; i < ROUNDS; i++) {
-                int choice = e & f ^ ~e & g;
-                int majority = a & b ^ a & c ^ b & c;
+                int choice = (e & f) ^ (~e & g);
+                int majority = (a & b) ^ (a & c) ^ (b & c);
                 int t1 = h + (turn(e, 6) ^ turn(e, 11) ^ turn(e, 25)) + choice + ROUND_KEYS[i] + schedule[i];
                 int t2 = (turn(a, 2) ^ turn(a, 13) ^ turn(a, 22)) + majority;
                 h = g;
@@ -581,7 +582,7 @@ public final class SignatureSpans {
         }
 
         private static int turn(int word, int by) {
-            return word >>> by | word << 32 - by;
+            return (word >>> by) | (word << (32 - by));
         }
     }
 }

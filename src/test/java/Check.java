@@ -44,8 +44,14 @@ final class Check {
         try {
             return Long.toString(call.answer());
         } catch (RuntimeException e) {
-            return e.getClass().getSimpleName();
+            String name = e.getClass().getSimpleName();
+            return thrownByMachine(e) ? "the machine's own " + name : name;
         }
+    }
+
+    /** The machine tells the index itself; the class tells a written text. */
+    private static boolean thrownByMachine(RuntimeException e) {
+        return e.getMessage() != null && e.getMessage().startsWith("Index ");
     }
 
     /** A file of so many bytes, byte i being i * 37. */
