@@ -12,6 +12,10 @@ public final class AllowTest {
         certify(check);
         levels(check);
         together(check);
+        everyMixture(check);
+        signatureOfLockedField(check);
+        oneCertifies(check);
+        highBits(check);
         check.end();
     }
 
@@ -135,5 +139,81 @@ public final class AllowTest {
         allowed(check, "level alone", x, 3);
         x.lock(0, 5);
         allowed(check, "level and lock", x, 2);
+    }
+
+    /** Each set of kinds with each level (0 for none) and with a lock or none. */
+    private static void everyMixture(Check check) {
+        int[] ofLevel = {15, 0, 1, 3};
+        for (int kinds = 0; kinds < 16; kinds++) {
+            for (int level = 0; level <= 3; level++) {
+                for (int locks = 0; locks < 2; locks++) {
+                    SignatureSpans x = changed();
+                    x.allow(0, kinds);
+                    if (level > 0) {
+                        x.certify(0, level);
+                    }
+                    if (locks == 1) {
+                        x.lock(0, 5);
+                    }
+                    int due = kinds & ofLevel[level] & (locks == 1 ? 14 : 15);
+                    allowed(check, "kinds " + kinds + ", level " + level + ", locks " + locks, x, due);
+                }
+            }
+        }
+    }
+
+    /** A signature is a change of kind 0 of its field, so a lock or no kind 0 refuses it, too. */
+    private static void signatureOfLockedField(Check check) {
+        for (int i = 0; i < 4; i++) {
+            SignatureSpans x = Check.signed();
+            x.place(8, 9);
+            x.lock(0, 7);
+            x.sign(i == 0 ? 7 : 8, true, 0);
+            if (i == 2) {
+                x.lock(0, 8);
+            }
+            if (i == 3) {
+                x.allow(0, 14);
+            }
+            check.answers("signature, way " + i, i == 1 ? 1 : 0, () -> x.since(0, 0, 2));
+            check.answers("holds, way " + i, i == 1 ? 1 : 8, () -> x.holds(0));
+        }
+    }
+
+    /** Signature 0 alone can certify, and once, whichever level comes first. */
+    private static void oneCertifies(Check check) {
+        int[] ofLevel = {15, 0, 1, 3};
+        for (int first = 1; first <= 3; first++) {
+            for (int second = 1; second <= 3; second++) {
+                SignatureSpans x = changed();
+                for (int i = 1; i < 8; i++) {
+                    int s = i;
+                    int level = second;
+                    x.place(6 + s, 7 + s);
+                    x.sign(s, true, 0);
+                    check.answers("signature " + s + " does not", 0, () -> x.certify(s, level));
+                    x.change(2, 2);
+                    check.answers("so it allows all", 1, () -> x.since(s, 0, 2));
+                }
+                int one = first;
+                int other = second;
+                check.answers("level " + first, 1, () -> x.certify(0, one));
+                check.answers("then level " + second, 0, () -> x.certify(0, other));
+                for (int i = 0; i < 4; i++) {
+                    int n = i;
+                    check.answers("kind " + i + " by level " + first, ofLevel[first] >> i & 1, () -> x.since(0, n, 2));
+                }
+            }
+        }
+    }
+
+    private static void highBits(Check check) {
+        SignatureSpans x = changed();
+        for (int i = 4; i < 32; i++) {
+            int bit = 1 << i;
+            x.allow(0, 9 | bit);
+            check.answers("bit " + i + " is none", 9, () -> x.allow(0, bit));
+            check.answers("nor alone", 0, () -> x.allow(0, 0));
+        }
     }
 }

@@ -12,6 +12,9 @@ public final class ChangeTest {
         forty(check);
         since(check);
         wrongSince(check);
+        everyPair(check);
+        behindOthers(check);
+        eachSignature(check);
         check.end();
     }
 
@@ -95,5 +98,83 @@ public final class ChangeTest {
         }
         check.refuses("since(1, -1, 0)", NoSuchElementException.class, () -> x.since(1, -1, 0));
         check.refuses("since(-1, 9, 9)", NoSuchElementException.class, () -> x.since(-1, 9, 9));
+    }
+
+    private static void everyPair(Check check) {
+        for (int k = -2; k <= 5; k++) {
+            for (int f = -2; f <= 21; f++) {
+                int kind = k;
+                int field = f;
+                SignatureSpans x = Check.signed();
+                String call = "change(" + k + ", " + f + ")";
+                if (k >= 0 && k <= 3 && f >= 0 && f <= 19) {
+                    check.answers(call, 1, () -> x.change(kind, field));
+                    check.answers(call + ": kind", kind, () -> x.since(0, 0, 0));
+                    check.answers(call + ": field", field, () -> x.since(0, 0, 1));
+                    check.answers(call + ": allowed", 1, () -> x.since(0, 0, 2));
+                } else {
+                    check.refuses(call, ILLEGAL, () -> x.change(kind, field));
+                    check.answers(call + ": none", 0, () -> x.since(0, -1, 0));
+                }
+            }
+        }
+    }
+
+    /** Changes from before a signature move none of the edges of those since it. */
+    private static void behindOthers(Check check) {
+        SignatureSpans x = Check.file(9);
+        x.place(0, 1);
+        for (int i = 0; i < 30; i++) {
+            x.change(3, 3);
+        }
+        x.sign(4, true, 0);
+        for (int i = 0; i < 10; i++) {
+            int n = i;
+            check.refuses("change " + i + " is not there yet", INDEX, () -> x.since(0, n, 0));
+            check.answers("change " + (30 + i), 31 + i, () -> x.change(kind(n), n));
+            check.answers("how many since", n + 1, () -> x.since(0, -1, 0));
+            check.answers("its kind", kind(n), () -> x.since(0, n, 0));
+            check.answers("its field", n, () -> x.since(0, n, 1));
+        }
+        int[] wrong = {
+            -2, -30, 10, 11, 39, 40, Integer.MAX_VALUE, Integer.MAX_VALUE - 29, Integer.MAX_VALUE - 30,
+            Integer.MIN_VALUE, Integer.MIN_VALUE + 30
+        };
+        for (int w : wrong) {
+            for (int what = -1; what <= 3; what++) {
+                int n = what;
+                check.refuses("since(0, " + w + ", " + what + ")", INDEX, () -> x.since(0, w, n));
+            }
+        }
+    }
+
+    private static int kind(int n) {
+        return n % 4;
+    }
+
+    /** Each signature but the first one is a change of kind 0 of its field, not since itself. */
+    private static void eachSignature(Check check) {
+        SignatureSpans x = Check.file(16);
+        for (int i = 0; i < 8; i++) {
+            x.place(2 * i, 2 * i + 1);
+        }
+        for (int i = 0; i < 8; i++) {
+            int s = i;
+            x.sign(19 - 2 * s, true, 0);
+            check.answers("none since " + s, 0, () -> x.since(s, -1, 0));
+            check.refuses("none since " + s + " to look at", INDEX, () -> x.since(s, 0, 0));
+        }
+        for (int i = 0; i < 8; i++) {
+            int s = i;
+            check.answers("since " + s, 7 - s, () -> x.since(s, -1, 0));
+            for (int k = i + 1; k < 8; k++) {
+                int at = k - i - 1;
+                int field = 19 - 2 * k;
+                check.answers("kind of signature " + k, 0, () -> x.since(s, at, 0));
+                check.answers("field of signature " + k, field, () -> x.since(s, at, 1));
+                check.answers("signature " + k + " is allowed", 1, () -> x.since(s, at, 2));
+            }
+        }
+        check.answers("so a change is the eighth", 8, () -> x.change(1, 1));
     }
 }

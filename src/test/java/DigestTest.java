@@ -9,6 +9,8 @@ public final class DigestTest {
         known(check);
         lengths(check);
         asWhenMade(check);
+        afterPokes(check);
+        eachItsOwn(check);
         wrongInputs(check);
         behind(check);
         check.end();
@@ -45,21 +47,15 @@ public final class DigestTest {
         bytes(check, "abc", y, 0, ofHex("ba7816bf8f01cfea414140de5dae2223b00361a396177a9cb410ff61f20015ad"));
     }
 
-    /** Each length about the edges of the blocks, the place standing across them. */
+    /** Each length that leaves an object calls enough, so each edge of the blocks up to there. */
     private static void lengths(Check check) throws NoSuchAlgorithmException {
-        for (int size = 3; size <= 470; size++) {
+        for (int size = 3; size <= 478; size++) {
             SignatureSpans x = Check.file(size);
             int from = size / 3;
             int to = from + 1 + size % 2;
             x.place(from, to);
             x.sign(0, true, 0);
-            MessageDigest hash = MessageDigest.getInstance("SHA-256");
-            for (int i = 0; i < size; i++) {
-                if (i < from || i >= to) {
-                    hash.update((byte) (i * 37));
-                }
-            }
-            bytes(check, "a file of " + size, x, 0, hash.digest());
+            bytes(check, "a file of " + size, x, 0, hash(size, from, to, -1));
         }
     }
 
@@ -77,6 +73,42 @@ public final class DigestTest {
         x.stamp(3);
         check.answers("it does not hold", 2, () -> x.holds(0));
         bytes(check, "after all that", x, 0, before);
+    }
+
+    private static byte[] hash(int size, int from, int to, int poked) throws NoSuchAlgorithmException {
+        MessageDigest hash = MessageDigest.getInstance("SHA-256");
+        for (int i = 0; i < size; i++) {
+            if (i < from || i >= to) {
+                hash.update((byte) (i == poked ? ~(i * 37) : i * 37));
+            }
+        }
+        return hash.digest();
+    }
+
+    /** Of the bytes as they are then: a byte that was changed before counts as it is. */
+    private static void afterPokes(Check check) throws NoSuchAlgorithmException {
+        for (int i = 0; i < 12; i++) {
+            SignatureSpans x = Check.file(12);
+            x.place(5, 7);
+            x.poke(i, 255);
+            x.sign(0, true, 0);
+            bytes(check, "byte " + i + " changed before", x, 0, hash(12, 5, 7, i));
+            x.poke(i, 255);
+            bytes(check, "byte " + i + " changed back", x, 0, hash(12, 5, 7, i));
+        }
+    }
+
+    /** Each leaves out its own place alone, and ends where it was made. */
+    private static void eachItsOwn(Check check) throws NoSuchAlgorithmException {
+        SignatureSpans x = Check.file(60);
+        for (int i = 0; i < 8; i++) {
+            x.place(7 * i, 7 * i + 1 + i % 7);
+            x.sign(i, true, 0);
+            Check.grow(x, 60 + i, 61 + i);
+        }
+        for (int i = 0; i < 8; i++) {
+            bytes(check, "signature " + i, x, i, hash(60 + i, 7 * i, 7 * i + 1 + i % 7, -1));
+        }
     }
 
     private static void wrongInputs(Check check) {

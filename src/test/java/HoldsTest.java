@@ -10,6 +10,10 @@ public final class HoldsTest {
         bytes(check);
         chains(check);
         otherSignatures(check);
+        everyMixture(check);
+        changesBefore(check);
+        whichChange(check);
+        lastCall(check);
         check.end();
     }
 
@@ -42,6 +46,12 @@ public final class HoldsTest {
         told(check, 4, 1, 6, 19);
         told(check, 4, 1, 6, 21);
         told(check, 4, 1, 6, Long.MIN_VALUE);
+        told(check, 2, 0, Long.MIN_VALUE, 4);
+        told(check, 3, 0, 0, Long.MAX_VALUE);
+        told(check, 3, 1, (1L << 32) + 6, 20);
+        told(check, 3, 1, Long.MIN_VALUE, 20);
+        told(check, 4, 1, 6, (1L << 32) + 20);
+        told(check, 4, 1, 6, 0);
 
         SignatureSpans x = Check.file(20);
         x.place(4, 6);
@@ -149,5 +159,89 @@ public final class HoldsTest {
         x.allow(0, 14);
         check.answers("the second signature is a change", 8, () -> x.holds(0));
         check.answers("but not since itself", 1, () -> x.holds(1));
+    }
+
+    /**
+     * Bit k of faults tells whether number k + 2 is so; it is the first of them
+     * that is answered. Number 3 is so in three ways.
+     */
+    private static SignatureSpans faulty(int faults, int way) {
+        SignatureSpans x = Check.file(20);
+        x.place(4, 6);
+        x.sign(0, (faults & 16) == 0, 50);
+        boolean third = (faults & 2) != 0;
+        x.tell(0, 0, faults & 1, third && way != 1 ? 3 : 4);
+        x.tell(0, 1, third && way != 0 ? 7 : 6, (faults & 4) == 0 ? 20 : 21);
+        if ((faults & 8) != 0) {
+            x.poke(19, 1);
+        }
+        if ((faults & 32) == 0) {
+            x.chain(0, 50, 50);
+        }
+        x.allow(0, 14);
+        x.change((faults & 64) == 0 ? 1 : 0, 5);
+        return x;
+    }
+
+    private static void everyMixture(Check check) {
+        for (int faults = 0; faults < 128; faults++) {
+            int due = faults == 0 ? 1 : Integer.numberOfTrailingZeros(faults) + 2;
+            for (int way = 0; way < 3; way++) {
+                SignatureSpans x = faulty(faults, way);
+                check.answers("faults " + faults + ", way " + way, due, () -> x.holds(0));
+            }
+        }
+    }
+
+    /** Those that came before a signature do not count for it, its own change among them. */
+    private static void changesBefore(Check check) {
+        SignatureSpans x = Check.file(20);
+        x.place(4, 6);
+        x.place(10, 12);
+        x.place(14, 15);
+        for (int kind = 0; kind < 4; kind++) {
+            x.change(kind, 1);
+        }
+        for (int i = 0; i < 3; i++) {
+            int s = i;
+            x.sign(s, true, 0);
+            x.chain(s, 0, 0);
+            x.allow(s, 0);
+            check.answers("all came before " + s, 1, () -> x.holds(s));
+        }
+        check.answers("0 has some since", 8, () -> x.holds(0));
+        check.answers("1 has one since", 8, () -> x.holds(1));
+        check.answers("2 has none", 1, () -> x.holds(2));
+        x.change(3, 19);
+        check.answers("2 has one", 8, () -> x.holds(2));
+    }
+
+    /** The one that is not allowed is the first, the last, or between. */
+    private static void whichChange(Check check) {
+        for (int i = 0; i < 40; i++) {
+            SignatureSpans x = Check.signed();
+            x.allow(0, 13);
+            for (int k = 0; k < 40; k++) {
+                x.change(k == i ? 1 : k % 2 == 0 ? 0 : 3, k % 20);
+            }
+            check.answers("change " + i + " is not allowed", 8, () -> x.holds(0));
+            x.allow(0, 15);
+            check.answers("all are allowed", 1, () -> x.holds(0));
+        }
+    }
+
+    /** An object is used for 512 calls: here the last of them is over 508 bytes. */
+    private static void lastCall(Check check) {
+        for (int i = 0; i < 2; i++) {
+            int size = 508 - i;
+            SignatureSpans x = Check.file(size);
+            x.place(100, 200);
+            x.sign(0, true, 0);
+            x.chain(0, 0, 0);
+            if (i == 1) {
+                x.poke(size - 1, 128);
+            }
+            check.answers("the 512th call", i == 1 ? 5 : 1, () -> x.holds(0));
+        }
     }
 }

@@ -12,6 +12,10 @@ public final class SignTest {
         eight(check);
         noRoomForItsChange(check);
         firstIsNoChange(check);
+        everyField(check);
+        fieldsThatHaveOne(check);
+        times(check);
+        ends(check);
         check.end();
     }
 
@@ -96,6 +100,7 @@ public final class SignTest {
         check.refuses("a field that has one", STATE, () -> x.sign(0, true, 0));
         check.refuses("a wrong field", ILLEGAL, () -> x.sign(-1, true, 0));
         check.refuses("no second signature", java.util.NoSuchElementException.class, () -> x.behind(1));
+        check.refuses("a wrong time", ILLEGAL, () -> x.sign(1, true, -1));
         check.answers("as many changes", 40, () -> x.since(0, -1, 0));
     }
 
@@ -120,5 +125,71 @@ public final class SignTest {
         check.answers("the 40th change", 1, () -> y.sign(1, true, 0));
         check.answers("one since 0", 1, () -> y.since(0, -1, 0));
         check.refuses("a 41st one", FULL, () -> y.change(0, 0));
+        check.refuses("no place is told before no room", STATE, () -> y.sign(2, true, 0));
+    }
+
+    private static void everyField(Check check) {
+        for (int i = 0; i < 20; i++) {
+            int field = i;
+            SignatureSpans x = Check.file(10);
+            x.place(1, 2);
+            x.place(3, 4);
+            check.answers("field " + i, 0, () -> x.sign(field, true, 0));
+            check.refuses("field " + i + " again", STATE, () -> x.sign(field, true, 0));
+            check.answers("another field", 1, () -> x.sign((field + 1) % 20, true, 0));
+            check.answers("its change's field", (field + 1) % 20, () -> x.since(0, 0, 1));
+        }
+    }
+
+    /** Not only the latest signature's field is one that has a signature. */
+    private static void fieldsThatHaveOne(Check check) {
+        SignatureSpans x = Check.file(20);
+        for (int i = 0; i < 8; i++) {
+            x.place(2 * i, 2 * i + 1);
+        }
+        for (int i = 0; i < 7; i++) {
+            int field = 3 * i % 20;
+            check.answers("signature " + i, i, () -> x.sign(field, true, 0));
+            for (int k = 0; k <= i; k++) {
+                int again = 3 * k % 20;
+                check.refuses("field " + again + " again", STATE, () -> x.sign(again, false, 9));
+            }
+        }
+    }
+
+    /** Time 0 and the latest one, and that all of a time's bits are kept. */
+    private static void times(Check check) {
+        long[] times = {0, 1, (1L << 31) - 1, 1L << 31, 1L << 32, (1L << 32) + 1, Long.MAX_VALUE};
+        for (long time : times) {
+            SignatureSpans x = Check.file(3);
+            x.place(0, 1);
+            check.answers("time " + time, 0, () -> x.sign(0, true, time));
+            x.chain(0, time, time);
+            check.answers("its time is " + time, 1, () -> x.holds(0));
+        }
+        long[] wrong = {-1, -(1L << 31), -(1L << 32), -(1L << 32) + 1, Long.MIN_VALUE, Long.MIN_VALUE + 1};
+        for (long time : wrong) {
+            SignatureSpans x = Check.file(3);
+            x.place(0, 1);
+            check.refuses("time " + time, ILLEGAL, () -> x.sign(0, true, time));
+            check.answers("the place is still free", 0, () -> x.sign(0, true, 0));
+        }
+    }
+
+    /** Each one's end is how many bytes the file has when it is made. */
+    private static void ends(Check check) {
+        SignatureSpans x = Check.file(9);
+        for (int i = 0; i < 8; i++) {
+            x.place(i, i + 1);
+        }
+        for (int i = 0; i < 8; i++) {
+            x.sign(i, true, 0);
+            x.add((byte) i);
+        }
+        for (int i = 0; i < 8; i++) {
+            int s = i;
+            check.answers("end of " + i, 9 + i, () -> x.span(s, 1, 1));
+            check.answers("behind " + i, 8 - i, () -> x.behind(s));
+        }
     }
 }

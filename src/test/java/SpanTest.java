@@ -11,6 +11,8 @@ public final class SpanTest {
         edges(check);
         wrongInputs(check);
         told(check);
+        anyLong(check);
+        eachSignature(check);
         check.end();
     }
 
@@ -82,5 +84,42 @@ public final class SpanTest {
         x.tell(0, 1, 6, 20);
         spans(check, "told back", x, 0, 0, 4, 6, 20);
         check.answers("it holds again", 1, () -> x.holds(0));
+    }
+
+    /** What is told may be anything, and stays as it is told. */
+    private static void anyLong(Check check) {
+        long[] values = {Long.MIN_VALUE, -(1L << 32), -1, 0, 1, 20, 21, 1L << 31, 1L << 32, Long.MAX_VALUE};
+        for (long from : values) {
+            for (long to : values) {
+                SignatureSpans x = Check.signed();
+                x.tell(0, 0, from, to);
+                spans(check, "first told " + from + " " + to, x, 0, from, to, 6, 20);
+                x.tell(0, 1, to, from);
+                spans(check, "second told " + to + " " + from, x, 0, from, to, to, from);
+                check.answers("the end stays", 0, () -> x.behind(0));
+            }
+        }
+    }
+
+    private static void eachSignature(Check check) {
+        SignatureSpans x = Check.file(30);
+        for (int i = 0; i < 8; i++) {
+            x.place(3 * i, 3 * i + 2);
+            x.sign(i, true, 0);
+        }
+        for (int i = 0; i < 8; i++) {
+            spans(check, "at first", x, i, 0, 3 * i, 3 * i + 2, 30);
+        }
+        for (int i = 0; i < 8; i++) {
+            x.tell(i, i % 2, i, -i);
+        }
+        for (int i = 0; i < 8; i++) {
+            long[] due = {0, 3 * i, 3 * i + 2, 30};
+            due[2 * (i % 2)] = i;
+            due[2 * (i % 2) + 1] = -i;
+            spans(check, "told", x, i, due);
+        }
+        check.refuses("span(8, 0, 0)", NONE, () -> x.span(8, 0, 0));
+        check.refusesAct("tell(8, 0, 0, 0)", NONE, () -> x.tell(8, 0, 0, 0));
     }
 }

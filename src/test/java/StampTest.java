@@ -9,6 +9,10 @@ public final class StampTest {
         order(check);
         good(check);
         wrongInputs(check);
+        everyOrder(check);
+        times(check);
+        asThen(check);
+        eachLength(check);
         check.end();
     }
 
@@ -87,5 +91,84 @@ public final class StampTest {
             check.answers("stamped(-1, " + w + ")", 1, () -> x.stamped(-1, w));
         }
         check.answers("stamped(0, 1)", 7, () -> x.stamped(0, 1));
+        check.refuses("stamped(-2, 9)", INDEX, () -> x.stamped(-2, 9));
+        check.refuses("stamped(1, 9)", INDEX, () -> x.stamped(1, 9));
+    }
+
+    /** All ways in which five stamps can have three times; of one time they stay as they came. */
+    private static void everyOrder(Check check) {
+        for (int way = 0; way < 243; way++) {
+            SignatureSpans x = new SignatureSpans();
+            int[] times = new int[5];
+            for (int i = 0, rest = way; i < 5; i++, rest /= 3) {
+                int n = i;
+                times[i] = rest % 3;
+                check.answers("way " + way + ": stamp " + i, i, () -> x.stamp(times[n]));
+            }
+            int at = 0;
+            for (int time = 0; time < 3; time++) {
+                for (int i = 0; i < 5; i++) {
+                    if (times[i] == time) {
+                        int n = at;
+                        check.answers("way " + way + ": number of " + n, i, () -> x.stamped(n, 0));
+                        check.answers("way " + way + ": time of " + n, time, () -> x.stamped(n, 1));
+                        at++;
+                    }
+                }
+            }
+        }
+    }
+
+    /** All of a time's bits are kept, and count in the order. */
+    private static void times(Check check) {
+        long[] times = {0, 1, (1L << 31) - 1, 1L << 31, 1L << 32, (1L << 32) + 1, Long.MAX_VALUE - 1, Long.MAX_VALUE};
+        SignatureSpans x = new SignatureSpans();
+        for (int i = times.length - 1; i >= 0; i--) {
+            x.stamp(times[i]);
+        }
+        for (int i = 0; i < times.length; i++) {
+            int n = i;
+            check.answers("time " + i, times[i], () -> x.stamped(n, 1));
+            check.answers("number " + i, times.length - 1 - i, () -> x.stamped(n, 0));
+        }
+        long[] wrong = {-1, -2, -(1L << 31), -(1L << 32), -(1L << 32) + 1, Long.MIN_VALUE, Long.MIN_VALUE + 1};
+        for (long time : wrong) {
+            check.refuses("stamp(" + time + ")", ILLEGAL, () -> x.stamp(time));
+        }
+        check.answers("as many", times.length, () -> x.stamped(-1, 0));
+    }
+
+    /** Of the bytes as they are then: the later one is good when the earlier one is not. */
+    private static void asThen(Check check) {
+        SignatureSpans x = Check.file(10);
+        x.stamp(0);
+        x.poke(3, 8);
+        x.stamp(1);
+        check.answers("the earlier one", 0, () -> x.stamped(0, 3));
+        check.answers("the later one", 1, () -> x.stamped(1, 3));
+        x.poke(3, 8);
+        check.answers("the earlier one, byte 3 back", 1, () -> x.stamped(0, 3));
+        check.answers("the later one, byte 3 back", 0, () -> x.stamped(1, 3));
+        x.add((byte) 3);
+        check.answers("a byte behind is not of it", 1, () -> x.stamped(0, 3));
+        check.answers("nor does it grow", 10, () -> x.stamped(0, 2));
+    }
+
+    /** The first and the last byte that it is of count, the next one does not. */
+    private static void eachLength(Check check) {
+        for (int size = 1; size <= 130; size++) {
+            SignatureSpans x = Check.file(size);
+            int end = size;
+            x.stamp(0);
+            x.add((byte) 9);
+            x.poke(end, 1);
+            check.answers("behind " + size, 1, () -> x.stamped(0, 3));
+            x.poke(end - 1, 1);
+            check.answers("last of " + size, 0, () -> x.stamped(0, 3));
+            x.poke(end - 1, 1);
+            x.poke(0, 128);
+            check.answers("first of " + size, 0, () -> x.stamped(0, 3));
+            check.answers("so many bytes", end, () -> x.stamped(0, 2));
+        }
     }
 }
