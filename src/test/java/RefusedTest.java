@@ -18,9 +18,14 @@ public final class RefusedTest {
 
     private static final State EMPTY = new State("empty", 0, 0, new Run());
     private static final State PLAIN = new State("plain", 20, 2, plain());
-    private static final State CROWDED = new State("40 changes", 12, 2, crowded());
     private static final State FILLED = new State("full", 24, 8, filled());
-    private static final List<State> ALL = List.of(EMPTY, PLAIN, CROWDED, FILLED);
+    private static final List<State> ALL = List.of(EMPTY, PLAIN, FILLED);
+
+    /** As the plain one, but one thing is full, so that all else may still change. */
+    private static final State PLACES = new State("8 places", 20, 2, eightPlaces());
+    private static final State ROWS = new State("4 rows", 20, 2, plain().times(2, x -> x.chain(0, 40, 60)));
+    private static final State CHANGES = new State("40 changes", 20, 2, plain().times(36, x -> x.change(3, 7)));
+    private static final State STAMPS = new State("10 stamps", 20, 2, plain().times(8, x -> x.stamp(5)));
 
     private final Check check = new Check("RefusedTest");
 
@@ -37,10 +42,17 @@ public final class RefusedTest {
                 test.ofSignature(at, s);
             }
         }
-        test.places();
-        test.signatures();
-        test.rows();
-        test.noRoom();
+        test.place(PLACES);
+        test.sharedPlace();
+        test.ninthPlace();
+        test.sign(CHANGES);
+        test.noPlaceOrField();
+        test.noRoomToSign();
+        test.fifthRow();
+        test.change(CHANGES);
+        test.change41();
+        test.stamps(STAMPS);
+        test.stamp11();
         test.noByte();
         test.check.end();
     }
@@ -55,11 +67,13 @@ public final class RefusedTest {
                 Run.tell(1, 1, -7, 1L << 40));
     }
 
-    /** 40 changes, and a place that a signature would have if there were room. */
-    private static Run crowded() {
-        return Run.file(12).then(x -> x.place(1, 2), x -> x.place(3, 5), x -> x.place(7, 8),
-                x -> x.sign(0, true, 0), x -> x.sign(1, true, 0), x -> x.chain(0, 0, 0))
-                .times(39, x -> x.change(3, 7));
+    private static Run eightPlaces() {
+        Run run = plain();
+        for (int i = 0; i < 5; i++) {
+            int from = 4 + i;
+            run.then(x -> x.place(from, from + 1));
+        }
+        return run;
     }
 
     /** As many places, signatures, rows, changes and stamps as there may be. */
@@ -190,55 +204,76 @@ public final class RefusedTest {
     }
 
     /** A byte of another place, free or a signature's, first or last: told before there are 8, too. */
-    private void places() {
+    private void sharedPlace() {
         long[][] shared = {{2, 4}, {3, 4}, {1, 3}, {9, 10}, {8, 11}, {16, 18}, {14, 16}, {0, 20}};
         for (long[] w : shared) {
             refused(PLAIN, "place " + w[0] + " " + w[1], ILLEGAL, x -> x.place(w[0], w[1]));
+            refused(PLACES, "place " + w[0] + " " + w[1], ILLEGAL, x -> x.place(w[0], w[1]));
         }
         refused(FILLED, "place over the first", ILLEGAL, x -> x.place(1, 3));
         refused(FILLED, "place over the last", ILLEGAL, x -> x.place(22, 24));
+    }
+
+    private void ninthPlace() {
+        refused(PLACES, "a ninth place", FULL, x -> x.place(0, 1));
+        refused(PLACES, "a ninth place at the end", FULL, x -> x.place(17, 20));
         refused(FILLED, "a ninth place", FULL, x -> x.place(23, 24));
     }
 
-    /** No place, or a field that has a signature: told before there is no room. */
-    private void signatures() {
+    /** Told before there is no room for its change, too. */
+    private void noPlaceOrField() {
         refused(EMPTY, "sign without a place", STATE, x -> x.sign(0, true, 0));
-        refused(PLAIN, "sign the first field again", STATE, x -> x.sign(5, true, 0));
-        refused(PLAIN, "sign the second field again", STATE, x -> x.sign(6, true, 0));
-        refused(CROWDED, "sign a field again without room", STATE, x -> x.sign(1, true, 0));
-        refused(CROWDED, "sign without room for its change", FULL, x -> x.sign(2, true, 0));
+        for (State at : List.of(PLAIN, CHANGES)) {
+            refused(at, "sign the first field again", STATE, x -> x.sign(5, true, 0));
+            refused(at, "sign the second field again", STATE, x -> x.sign(6, false, 1));
+        }
         refused(FILLED, "a ninth signature has no place", STATE, x -> x.sign(0, true, 0));
         refused(FILLED, "nor has one of a field again", STATE, x -> x.sign(19, true, 0));
-        Run none = Run.file(3).then(x -> x.place(0, 1), x -> x.sign(0, true, 0)).times(40, x -> x.change(1, 1));
-        Twins.refused(check, "neither a place nor room", none, STATE, x -> x.sign(1, true, 0));
-        Run left = Run.file(3).then(x -> x.place(0, 1), x -> x.sign(0, true, 0));
+        Run left = plain().then(x -> x.sign(2, true, 0));
         Twins.refused(check, "no place is left", left, STATE, x -> x.sign(1, true, 0));
+        left.times(35, x -> x.change(1, 1));
+        Twins.refused(check, "neither a place nor room", left, STATE, x -> x.sign(1, true, 0));
     }
 
-    private void rows() {
+    private void noRoomToSign() {
+        refused(CHANGES, "sign without room for its change", FULL, x -> x.sign(2, true, 0));
+        refused(CHANGES, "sign falsely without room for its change", FULL, x -> x.sign(19, false, Long.MAX_VALUE));
+    }
+
+    /** To below from is told before it has 4, too. */
+    private void fifthRow() {
+        refused(ROWS, "a fifth row", FULL, x -> x.chain(0, 90, 99));
+        refused(ROWS, "a fifth row that would do", FULL, x -> x.chain(0, 50, 50));
+        refused(ROWS, "a fifth row back", ILLEGAL, x -> x.chain(0, 99, 90));
         for (int i = 0; i < 8; i++) {
             int s = i;
             refused(FILLED, "a fifth row of " + i, FULL, x -> x.chain(s, 90, 99));
         }
-        refused(FILLED, "a fifth row that would do", FULL, x -> x.chain(0, 0, 10));
     }
 
-    private void noRoom() {
+    private void change41() {
         for (int k = 0; k < 4; k++) {
             int kind = k;
-            refused(CROWDED, "change 41 of kind " + k, FULL, x -> x.change(kind, 9));
-            refused(FILLED, "full: change 41 of kind " + k, FULL, x -> x.change(kind, 19));
+            refused(CHANGES, "change 41 of kind " + k, FULL, x -> x.change(kind, 9));
+            refused(FILLED, "change 41 of kind " + k, FULL, x -> x.change(kind, 19));
         }
-        refused(FILLED, "stamp 11, first in order", FULL, x -> x.stamp(0));
-        refused(FILLED, "stamp 11, last in order", FULL, x -> x.stamp(Long.MAX_VALUE));
+    }
+
+    private void stamp11() {
+        for (State at : List.of(STAMPS, FILLED)) {
+            refused(at, "stamp 11, first in order", FULL, x -> x.stamp(0));
+            refused(at, "stamp 11, last in order", FULL, x -> x.stamp(Long.MAX_VALUE));
+        }
     }
 
     /** 1,500 bytes need more than the 512 calls, so this is looked at as the class has it. */
     private void noByte() {
-        Run run = plain().times(1500 - PLAIN.bytes, x -> x.add((byte) 3)).then(x -> x.stamp(1), x -> x.sign(9, true, 0));
+        Run plain = plain().times(1500 - PLAIN.bytes, x -> x.add((byte) 3)).then(x -> x.stamp(1));
+        Run filled = filled().times(1500 - FILLED.bytes, x -> x.add((byte) 3));
         for (int i = 0; i < 3; i++) {
             byte b = (byte) (i - 1);
-            Twins.refusedLate(check, "byte 1501: " + b, run, FULL, x -> x.add(b));
+            Twins.refusedLate(check, "byte 1501: " + b, plain, FULL, x -> x.add(b));
+            Twins.refusedLate(check, "byte 1501 when all is full: " + b, filled, FULL, x -> x.add(b));
         }
     }
 }

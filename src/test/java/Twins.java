@@ -13,6 +13,7 @@ final class Twins {
     private static final int LINE = 120;
     private static final int SIGNATURES = 8;
     private static final int BYTES = 40;
+    private static final int FREE_BYTES = 26;
 
     private record Probe(String name, Run.Step step) { }
 
@@ -64,6 +65,12 @@ final class Twins {
         List<Probe> looks = looks();
         for (int at = 0; at < looks.size(); at += LINE) {
             all.add(looks.subList(at, Math.min(at + LINE, looks.size())));
+        }
+        for (int i = 0; i < 20; i++) {
+            all.add(oneSignature(i));
+        }
+        for (int i = 0; i < FREE_BYTES; i++) {
+            all.add(onePlace(i));
         }
         all.add(morePlacesAndSignatures());
         all.add(moreChanges());
@@ -132,6 +139,22 @@ final class Twins {
                 put(line, "stamped " + i + " " + what, x -> x.stamped(n, w));
             }
         }
+    }
+
+    /** Alone, since a call that is refused before it might undo the difference. */
+    private static List<Probe> oneSignature(int field) {
+        List<Probe> line = new ArrayList<>();
+        put(line, "a signature of " + field + " first", x -> x.sign(field, true, 7));
+        for (int i = 0; i < SIGNATURES; i++) {
+            lookAtSignature(line, i);
+        }
+        return line;
+    }
+
+    private static List<Probe> onePlace(int from) {
+        List<Probe> line = new ArrayList<>();
+        put(line, "a place at " + from + " first", x -> x.place(from, from + 1));
+        return line;
     }
 
     /** Which bytes are in a place, which places are taken, and which fields. */
