@@ -248,7 +248,7 @@ public final class SignatureSpans {
     public byte digest(int signature, int i) throws NoSuchElementException, ArrayIndexOutOfBoundsException {
         Signature s = signatureAt(signature);
         if (i < 0 || i >= DIGEST_BYTES) {
-            // The document names this one, though rule 6 of LANGUAGE.md does not list it.
+            // Promise 15 names this very class, and rule 6 has a call throw what the document says.
             throw new ArrayIndexOutOfBoundsException("a digest has bytes 0 to 31");
         }
         return s.digest[i];
